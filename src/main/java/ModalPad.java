@@ -328,7 +328,7 @@ public final class ModalPad {
                 Strip loaded = new Strip(0);
                 loaded.partOf(log, mirrored, end);
                 driven.begin(loaded);
-                mirrored = end + 1;
+                mirrored = end == NONE ? log.size : end + 1;
             } else if (entry == LOG_WRAP || entry == LOG_NO_WRAP) {
                 driven.finder.wrap = entry == LOG_WRAP;
             } else {
@@ -2683,11 +2683,15 @@ public final class ModalPad {
         int putStrip(int row, int col, Strip signs, int many) {
             int atRow = row;
             int atCol = col;
+            int ends = signs.count(LINE_END) * many;
+            if (ends > 0) {
+                // the rest of the line goes first, as together with the first of the signs it may be too long
+                text.openLines(row + 1, ends);
+                text.moveTail(row, col, row + ends);
+            }
             for (int i = 0; i < many; i++) {
                 for (int j = 0; j < signs.size; j++) {
                     if (signs.signs[j] == LINE_END) {
-                        text.openLines(atRow + 1, 1);
-                        text.moveTail(atRow, atCol, atRow + 1);
                         atRow++;
                         atCol = 0;
                     } else {
@@ -2865,7 +2869,7 @@ public final class ModalPad {
                     many++;
                     col = all ? text.findIn(row, col + old.size, old) : NONE;
                 }
-                found |= many > 0;
+                found = found || many > 0;
                 if (text.sizeOf(row) + many * (fresh.size - old.size) > MAX_SIGNS) {
                     return false;
                 }
