@@ -128,6 +128,7 @@ public final class ChangeTest {
         Probe.after("a\nb\nc\nd", "dddddd\"4P\"1P.", "b\nc\nd", 0, 1);
         ModalPad pad = Probe.after("a\nb\nc", "\"9yy\"9p..", "a\na\na\na\nb\nc", 300);
         Probe.due("9 stays 9", pad.failures(), 0);
+        Probe.after("a\nb\nc", "\"9yyj\"8yy\"8P.", "a\na\nb\nb\nc", 100);
         // it stays so if nothing changes by it, but not if it fails
         Probe.after("baaaabbbbb", "ra3.4l.", "aaaaabaaab", 8);
         Probe.after("baaaabbbbb", "ra20.$.", "aaaaabbbba", 9, 1);
@@ -215,6 +216,7 @@ public final class ChangeTest {
         Probe.after("l\nabc", "\"ayyj@a", "l\nabc", 101, 1);
         // a failure drops all that is still to be played
         Probe.after("abcdef", "qaxhxq3@a", "def", 0, 2);
+        Probe.after("abcd", "xqaulqx@a", "acd", 1, 1);
         ModalPad pad = Probe.after("ab cd", "qaxuq@a", "b cd", 0, 1);
         Probe.due("u fails while keys are played", pad.states(), 3);
         // all that @ does is one change
@@ -226,7 +228,7 @@ public final class ChangeTest {
         Probe.due("u takes all of it back", Probe.text(pad), "abcdef");
         Probe.due("but . is its last command", Probe.type(pad, "$.") * 10 + pad.length(0), 5);
         // q fails while keys are played
-        Probe.after("abc", "\"ayyiqb{ESC}0\"aDA@{ESC}", "@", 0);
+        Probe.after("qb", "\"ayw@a", "qb", 0, 1);
         pad = Probe.after("qbl", "\"ayl\"Ayw@a", "qbl", 0, 1);
         // an insertion that goes on behind what is played
         pad = Probe.after("aix", "lv$\"ay0@ay{ESC}", "xyaix", 1);
@@ -244,6 +246,12 @@ public final class ChangeTest {
         Probe.type(pad, "qaxq");
         Probe.due("99 keys", Probe.type(pad, "58@a"), 0);
         Probe.due("length", pad.length(0), 1);
+        pad = Probe.pad("ab");
+        Probe.type(pad, "qa" + "lh".repeat(50) + "q0");
+        Probe.due("100 keys", Probe.type(pad, "@a"), 0);
+        Probe.type(pad, "qa" + "lh".repeat(50) + "lq0");
+        Probe.due("101 keys", Probe.type(pad, "@a"), 1);
+        Probe.due("100 of them", pad.column(), 0);
         // 20 within one another
         pad = Probe.pad("a".repeat(60));
         Probe.type(pad, "qax@aq");
@@ -253,6 +261,8 @@ public final class ChangeTest {
         Probe.due("20 times", pad.length(0), 39);
         Probe.due("as one change", pad.states(), 3);
         Probe.due("agrees", pad.agrees(), true);
+        // n is one of them, too
+        Probe.after("ab", "qa:n~@a{ENTER}q:n@a{ENTER}", "ab", 1, 2);
     }
 
     private static void limitOfKeys() {

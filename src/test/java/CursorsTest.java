@@ -113,6 +113,7 @@ public final class CursorsTest {
         shows("a\nq\n  b\nq\ncdef", "/q{ENTER}gmdk", "cdef", 2, "0");
         shows("x\na\nq\n bcd\nq", "/q{ENTER}gmdk", "x", 0, "");
         shows("q\nx\nq y\nabc", "/q{ENTER}gmdj", "", 0, "");
+        shows("q1\nx\ny\na q\nb\nc", "/q{ENTER}gmdd", "x\ny\nb\nc", 200, "0");
         // its wanted column stays
         shows("a\nq\n  b\nq\nc\ndefg", "/q{ENTER}gmdk", "c\ndefg", 0, "");
         shows("a\nq\n  b\nq\nc\ndefg", "/q{ENTER}gmdkj", "c\ndefg", 102, "");

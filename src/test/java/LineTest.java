@@ -43,6 +43,9 @@ public final class LineTest {
         Probe.after(text, ":d{ENTER}", "b\nc\nd", 0);
         Probe.after(text, "j:d{ENTER}", "a\nc\nd", 100);
         Probe.after(text, ":%d{ENTER}", "", 0);
+        Probe.after(text, "G:%d{ENTER}", "", 0);
+        Probe.after("\n".repeat(9) + "a\nb\n", ":10d{ENTER}", "\n".repeat(9) + "b\n", 900);
+        Probe.after("\n".repeat(8) + "a\nb\n", ":9d{ENTER}", "\n".repeat(8) + "b\n", 800);
         Probe.after(text, ":3d{ENTER}", "a\nb\nd", 200);
         Probe.after(text, ":2,3d{ENTER}", "a\nd", 100);
         Probe.after(text, "j:.,$d{ENTER}", "a", 0);
@@ -138,6 +141,9 @@ public final class LineTest {
         Probe.after("ab\ncd\nef", ":%ndj{ENTER}", "ef", 0, 1);
         Probe.after("ab\ncd\nef", ":%nx{ENTER}u", "ab\ncd\nef", 0);
         Probe.after("ab\ncd\nef", ":%nxu{ENTER}", "b\ncd\nef", 0, 1);
+        Probe.after("a\nb\nc", ":%nyyP{ENTER}", "a\na\nb\nb\nc\nc", 400);
+        Probe.after("a\nb\nc", ":%nyyp{ENTER}", "a\na\nb\nb\nc\nc", 500);
+        Probe.after("a\nb\nc\nd", ":1,2nddp{ENTER}", "a\nb\nc\nd", 100);
         ModalPad pad = Probe.after("ab\ncd", ":nvj{ENTER}", "ab\ncd", 100);
         Probe.due("ESC ends a selection", pad.mode(), ModalPad.NORMAL);
         pad = Probe.after("ab\ncd", ":nv\"a{ENTER}", "ab\ncd", 0);

@@ -226,6 +226,10 @@ public final class MapTest {
             "IllegalStateException");
         Probe.due("of another mode", Probe.thrown(() -> full.unmap(ModalPad.NORMAL, '3')), "IllegalStateException");
         Probe.due("all others", full.unmap(ModalPad.SELECTION, '3'), 11);
+        map(pad, ModalPad.SELECTION, "9", "d", true);
+        Probe.due("one ahead of it", full.unmap(ModalPad.SELECTION, '5'), 10);
+        Probe.type(pad, "0v9");
+        Probe.due("the last one is still there", Probe.text(pad), "bcdef");
         Probe.feed(pad, "xyz");
         pad.load();
         Probe.type(pad, "K");

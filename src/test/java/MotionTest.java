@@ -78,6 +78,8 @@ public final class MotionTest {
             moves(text, "w".repeat(i + 1), begins[i]);
         }
         moves(text, "99w", 204);
+        moves("bA Z0 z9_ a@ [", "w", 3);
+        moves("bA Z0 z9_ a@ [", "4w", 11);
         fails(text, "G$w", 204);
         fails("a", "w", 0);
         fails("", "w", 0);
@@ -105,6 +107,9 @@ public final class MotionTest {
         moves(text, "2tx", 2);
         moves(text, "$Fx", 3);
         moves(text, "$2Fx", 1);
+        moves(text, "$Fa", 0);
+        moves(text, "$Ta", 1);
+        moves(text, "$ta", 5, 1);
         fails(text, "$3Fx", 5);
         moves(text, "$Tx", 4);
         moves(text, "$hTx", 4);
@@ -173,6 +178,11 @@ public final class MotionTest {
         moves(text, "/one{ENTER}2n", 0);
         moves(text, "/one{ENTER}N", 0);
         moves(text, "/one{ENTER}2N", 200);
+        moves(text, "/one{ENTER}NN", 200);
+        moves(text, "G/two{ENTER}N", 100);
+        moves("ab ab ab", "/ab{ENTER}$N", 6);
+        moves("ab ab ab", "/ab{ENTER}$2N", 3);
+        moves("ab ab\nab", "/ab{ENTER}0NN", 3);
         fails(text, "/nix{ENTER}", 0);
         fails(text, "/{ENTER}", 0);
         fails(text, "n", 0);
@@ -206,6 +216,10 @@ public final class MotionTest {
         fails(text, "'a", 0);
         fails(text, "`b", 0);
         fails(text, "mA", 0);
+        fails(text, "m@", 0);
+        fails(text, "'@", 0);
+        fails(text, "q@", 0);
+        Probe.after("abc\ndefghi", "j$maDD0gg$d`a", "abg", 2);
         fails(text, "'1", 0);
         Probe.after(text, "j$magg0jDk`a", "abc\n\ng", 100);
         ModalPad pad = Probe.pad(text);

@@ -197,6 +197,8 @@ public final class OperatorTest {
         Probe.after("f(\n a\n)", "ldi(", "f()", 2);
         Probe.after("f(\n a\n)", "jyi(", "f(\n a\n)", 1);
         Probe.after("f(x", "2ldi(", "f(x", 2, 1);
+        Probe.after("(a)", "ldi(", "()", 1);
+        Probe.after("a(b\n(c) d)", "j$hda(", "a", 0);
         Probe.after("f(x)", "ldi)", "f(x)", 1, 1);
         Probe.after("a\nb\n\n\nc", "dip", "\n\nc", 0);
         Probe.after("a\nb\n\n\nc", "dap", "c", 0);
@@ -239,6 +241,7 @@ public final class OperatorTest {
         Probe.after("\n  b", "J", "b", 0);
         Probe.after("ab\n   ", "J", "ab", 1);
         Probe.after("\n", "J", "", 0);
+        Probe.after("x".repeat(60) + "\n  \n", "3J", "x".repeat(60), 59);
         Probe.after("a \nb", "J", "a  b", 2);
         Probe.after("x".repeat(30) + "\n" + "y".repeat(29), "J", "x".repeat(30) + " " + "y".repeat(29), 30);
         Probe.after("x".repeat(30) + "\n" + "y".repeat(30), "J", "x".repeat(30) + "\n" + "y".repeat(30), 0, 1);

@@ -114,6 +114,20 @@ public final class PlacesTest {
         Probe.due("the one that was gone to is gone", pad.jumps(), 2);
         Probe.due("so the cursor is kept", Probe.type(pad, "{OLDER}"), 0);
         Probe.due("and left", pad.jumps() * 10 + pad.line(), 34);
+        pad = Probe.pad("a\nb\nc\nd\ne\nf");
+        Probe.type(pad, "2G4G6Gggdd");
+        Probe.due("the first one is gone", pad.jumps(), 3);
+        Probe.type(pad, "G2{OLDER}");
+        Probe.due("the others have moved", pad.line() * 10 + pad.jumps(), 23);
+        pad = Probe.pad("a\nb\nc\nd\ne\nf");
+        Probe.type(pad, "2G4G6G2G");
+        Probe.type(pad, "O{ESC}gg4{OLDER}");
+        Probe.due("by a line more, too", Probe.place(pad) * 10 + pad.jumps(), 2005);
+        pad = Probe.pad("a\nb\nc");
+        Probe.type(pad, "Gyypgg2GG{OLDER}uk{NEWER}");
+        Probe.due("u keeps the one that was gone to", pad.failures() * 100 + pad.line(), 101);
+        Probe.type(pad, "{OLDER}");
+        Probe.due("so this goes on from it", Probe.place(pad) * 10 + pad.jumps(), 2);
         pad = Probe.pad("abcdef\nb");
         Probe.type(pad, "$GggDG{OLDER}");
         Probe.due("columns stay", Probe.place(pad), 0);
@@ -185,6 +199,10 @@ public final class PlacesTest {
         Probe.type(pad, "zd");
         Probe.due("zd", told(pad), "0: -1 -1 -1 -1 -1 -1");
         Probe.due("failures", pad.failures(), 5);
+        // the outermost one of those that are closed
+        pad = Probe.pad("a\nb\nc\nd\ne\nf");
+        Probe.type(pad, "2Gzf4jzo3Gzf2zkjzc");
+        Probe.due("outermost", told(pad), "2: -1 105 105 105 105 105");
         // of two of the same lines the closed one
         pad = Probe.pad("a\nb\nc\nd");
         Probe.type(pad, "zfjzozf2jzojjdd");
@@ -291,6 +309,11 @@ public final class PlacesTest {
         pad = Probe.pad("a\nb\nc");
         Probe.type(pad, "Gyypyyp2GzfGuu");
         Probe.due("with two it stays", told(pad), "1: -1 102 102");
+        pad = Probe.pad("a\nb\nc\nd\ne\nf");
+        Probe.type(pad, "4Gzfj:1,2d{ENTER}");
+        Probe.due("lines less ahead", told(pad), "1: -1 102 102 -1");
+        Probe.type(pad, "gg2O{ESC}");
+        Probe.due("a line more ahead", told(pad), "1: -1 -1 203 203 -1");
         Probe.due("agrees", pad.agrees(), true);
     }
 

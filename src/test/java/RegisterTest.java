@@ -88,6 +88,15 @@ public final class RegisterTest {
         Probe.due("so does d", Probe.type(pad, "\"Add"), 1);
         Probe.due("nothing changes", pad.lines() * 10000 + pad.registerLength('a'), 403000);
         Probe.due("nor in the unnamed one", pad.registerLength('"'), 600);
+        Probe.due("a register of signs", Probe.type(pad, "\"cyl\"C10yy"), 0);
+        Probe.due("with a line end", pad.registerLength('c'), 602);
+        Probe.due("39 lines more", Probe.type(pad, "gg\"C39yy"), 0);
+        Probe.due("and one too many", Probe.type(pad, "\"Cyy"), 1);
+        for (int i = 0; i < 29; i++) {
+            Probe.due("a sign as a line", Probe.type(pad, "\"Cyl"), 0);
+        }
+        Probe.due("3000 signs", pad.registerLength('c'), 3000);
+        Probe.due("one more", Probe.type(pad, "\"Cyl"), 1);
     }
 
     private static void numbered() {
@@ -169,6 +178,7 @@ public final class RegisterTest {
         Probe.after("ab", "\"_p", "ab", 0, 1);
         Probe.after("ab", "qal{ESC}q\"ap", "ab", 1, 1);
         Probe.after("ab", "qaix{ENTER}{ESC}q\"ap", "x\nab", 100, 1);
+        Probe.after("ab", "qa{ESC}lq\"ap", "ab", 1, 1);
         Probe.after("ab", "qalhq0\"ap", "alhb", 2);
         Probe.after("ab", "qa/b{ENTER}q0\"ap", "a/b\nb", 1);
     }

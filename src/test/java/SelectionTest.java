@@ -155,6 +155,8 @@ public final class SelectionTest {
         Probe.after("\nab", "vrx", "\nab", 0, 1);
         Probe.after("\n\nab", "Vjrx", "\n\nab", 100, 1);
         Probe.after("\nab", "v>", "\nab", 0);
+        ModalPad folded = Probe.after("ab\n\nc", "vjzf", "ab\n\nc", 0);
+        Probe.due("the lines of a selection by signs", folded.foldOf(1), 1);
         Probe.after("ab\ncd", "vzf", "ab\ncd", 0, 1);
         Probe.after("ab\ncd", "v99l99jd", "\ncd", 0, 1);
         Probe.after("\nab", "Vd", "ab", 0);
