@@ -179,11 +179,11 @@ public final class ModalPad {
     }
 
     public int cursors() {
-        return pad.places.othersLeft();
+        return pad.places.otherCount;
     }
 
     public int cursorAt(int place) {
-        if (place < 0 || place >= pad.places.othersLeft()) {
+        if (place < 0 || place >= pad.places.otherCount) {
             throw new IndexOutOfBoundsException("not so many cursors");
         }
         return pad.places.otherAt(place);
@@ -993,7 +993,7 @@ public final class ModalPad {
         int jumpCount = 0;
         /** The place of jumps that was gone to last; NONE without one since the newest one was kept. */
         private int jumpAt = NONE;
-        /** The further cursors; NONE for one that is gone until the command is at its end. */
+        /** The further cursors, in their order; while a command is done NONE for one that is gone. */
         final int[] others = new int[MAX_OTHERS];
         int otherCount = 0;
         /** The main cursor while a command is done at the others, and its wanted column. */
@@ -1122,23 +1122,8 @@ public final class ModalPad {
             return true;
         }
 
-        int othersLeft() {
-            int left = 0;
-            for (int i = 0; i < otherCount; i++) {
-                left += others[i] == NONE ? 0 : 1;
-            }
-            return left;
-        }
-
         int otherAt(int place) {
-            int left = place;
-            for (int i = 0; i < otherCount; i++) {
-                if (others[i] != NONE && left == 0) {
-                    return others[i];
-                }
-                left -= others[i] == NONE ? 0 : 1;
-            }
-            return NONE;
+            return place < 0 || place >= otherCount ? NONE : others[place];
         }
 
         void addOther(int place) {

@@ -114,6 +114,9 @@ public final class ChangeTest {
         Probe.after("abcdefghij", "x3.", "efghij", 0);
         Probe.after("abcdefghij", "x3..", "hij", 0);
         Probe.after("abcdefghij", "2x3.", "fghij", 0);
+        Probe.after("abcdefghij", "3x1.", "efghij", 0);
+        Probe.after("abcdefghijklmnop", "x12.", "nop", 0);
+        Probe.after("abcdefghijklmnop", "\"ax12.", "nop", 0);
         Probe.after("a b c d e f g h i", "2d2w.", "i", 0);
         Probe.after("a b c d e f g h i", "2d2w3.", "h i", 0);
         Probe.after("a b c d e f g h i", "d3w2.", "f g h i", 0);
@@ -261,6 +264,10 @@ public final class ChangeTest {
         Probe.due("20 times", pad.length(0), 39);
         Probe.due("as one change", pad.states(), 3);
         Probe.due("agrees", pad.agrees(), true);
+        // a command line that is not given to its end is dropped
+        pad = Probe.pad("ab");
+        Probe.type(pad, "qa" + "lh".repeat(48) + ":zzz{BACK}{BACK}{BACK}{ESC}q0@a");
+        Probe.due("101 keys", pad.mode() * 100 + pad.given() * 10 + pad.failures(), 1);
         // n is one of them, too
         Probe.after("ab", "qa:n~@a{ENTER}q:n@a{ENTER}", "ab", 1, 2);
     }

@@ -32,7 +32,8 @@ public final class CursorsTest {
         // 10 at most
         shows("a".repeat(15), "/a{ENTER}$gm", "a".repeat(15), 14, "0 1 2 3 4 5 6 7 8");
         shows("b" + "a".repeat(15), "/a{ENTER}0gm", "b" + "a".repeat(15), 1, "2 3 4 5 6 7 8 9 10");
-        // once more, with other signs
+        // once more, with others
+        shows("ab ab", "/a{ENTER}gml/a{ENTER}lgm", "ab ab", 0, "3");
         shows("ab ab", "/a{ENTER}gm/b{ENTER}gm", "ab ab", 4, "1");
     }
 
@@ -171,6 +172,16 @@ public final class CursorsTest {
         Probe.type(pad, "x");
         Probe.due("the next one is not", pad.length(0), 5);
         Probe.due("agrees", pad.agrees(), true);
+        // an ESC that n gives is none: 3 keys, and 53 times 7 that are typed, 4 that are played, and 4 at the others
+        pad = Probe.pad("a\na\na");
+        Probe.type(pad, "/a{ENTER}");
+        for (int i = 0; i < 53; i++) {
+            Probe.type(pad, ":ngmix{ENTER}");
+        }
+        Probe.due("all were done", pad.length(2), 54);
+        Probe.type(pad, "{ESC}hhh");
+        Probe.due("and two keys more", pad.column(), 51);
+        Probe.due("agrees", pad.agrees(), true);
         // they are no played keys by their number
         pad = Probe.pad("a\na\na\na\na\na\na\na\na\na");
         Probe.type(pad, "/a{ENTER}qagmA012345678{ESC}q");
@@ -191,6 +202,18 @@ public final class CursorsTest {
         Probe.type(pad, "ugg0gm");
         Probe.type(pad, "yiw");
         Probe.due("also by y", Probe.cursors(pad), "100");
+        Probe.type(pad, "u");
+        pad = Probe.pad("xa\nb\na\nd");
+        Probe.type(pad, "jzfjgg/a{ENTER}gg0gmh");
+        Probe.due("but not by one that fails there", Probe.place(pad) + " " + Probe.cursors(pad), "0 200");
+        pad = Probe.pad("xa\nb\na\nd");
+        Probe.type(pad, "jzfjgg/a{ENTER}gg0gmix{ESC}");
+        Probe.due("INSERT opens it", Probe.text(pad) + pad.foldOf(1) + Probe.cursors(pad), "xxa\nb\nxa\nd-1200");
+        // one that closes over the main one
+        pad = Probe.pad("z\nqab\n qa\nc\nd");
+        Probe.type(pad, "/q{ENTER}ngmzfj");
+        Probe.due("folds", pad.folds() * 1000 + pad.foldOf(1), 2103);
+        Probe.due("the main one is on its first line", Probe.place(pad) + " " + Probe.cursors(pad), "101 100");
         Probe.due("agrees", pad.agrees(), true);
     }
 

@@ -137,6 +137,7 @@ public final class LineTest {
         Probe.after("ab\ncd\nef", "Gl:1,2nA!{ENTER}", "ab!\ncd!\nef", 102);
         Probe.after("ab\ncd\nef", ":2n$x{ENTER}", "ab\nc\nef", 100);
         Probe.after("ab\ncd\nef", ":n2d{ENTER}", "ab\ncd\nef", 0);
+        Probe.after("ab\ncd\nef", ":%nd{ENTER}", "ab\ncd\nef", 200);
         Probe.after("ab\ncd\nef\ngh", ":%ndj{ENTER}", "", 0);
         Probe.after("ab\ncd\nef", ":%ndj{ENTER}", "ef", 0, 1);
         Probe.after("ab\ncd\nef", ":%nx{ENTER}u", "ab\ncd\nef", 0);

@@ -50,6 +50,8 @@ public final class MotionTest {
         moves(text, "4l2j", 200);
         moves(text, "4l3j", 304);
         moves(text, "$3j", 304);
+        moves("abc\nabcdef\nab\nabcd", "$j", 105);
+        moves("abc\nabcdef\nab\nabcd", "$2jj", 303);
         moves(text, "$jkl", 5, 1);
         moves(text, "4l3jkkk", 4);
         moves(text, "4ljhk", 0);
@@ -90,6 +92,9 @@ public final class MotionTest {
         moves(text, "G$99b", 0);
         fails(text, "b", 0);
         moves("  ab", "2lb", 0);
+        moves("ab\ncd ef", "G$bb", 100);
+        moves("abc", "$2b", 0);
+        moves("a b", "2w", 2);
         int[] ends = {2, 6, 9, 12, 13, 204};
         for (int i = 0; i < ends.length; i++) {
             moves(text, (i + 1) + "e", ends[i]);
@@ -132,6 +137,7 @@ public final class MotionTest {
     private static void linesByNumber() {
         String text = "a\n  bc\n    \nddd";
         moves(text, "G", 300);
+        moves(text, "1G", 0);
         moves(text, "2G", 102);
         moves(text, "3G", 203);
         moves(text, "99G", 300);
@@ -149,6 +155,7 @@ public final class MotionTest {
         moves(text, "9}", 501);
         moves(text, "j}", 400);
         fails(text, "G$}", 501);
+        moves("a\n", "2}", 100);
         moves(text, "G{", 400);
         moves(text, "G2{", 200);
         moves(text, "G3{", 0);

@@ -41,6 +41,9 @@ public final class OperatorTest {
         Probe.after("axbxc", "$d2Tx", "axc", 2);
         Probe.after("axbxc", "$dTx", "axbxc", 4, 1);
         Probe.after("axbxc", "fxd;", "ac", 1);
+        Probe.after("axbxcx", "dfx;", "bxcx", 1);
+        Probe.after("axbxcx", "dfq;", "axbxcx", 0, 2);
+        Probe.after("a b a b", "d/b{ENTER}n", "b a b", 4);
         Probe.after("f(a(b)c)d", "d%", "d", 0);
         Probe.after("f(a)d", "3ld%", "fd", 1);
         Probe.after("one two one", "d/one{ENTER}", "one", 0);
@@ -170,6 +173,9 @@ public final class OperatorTest {
         Probe.after("a b", "d4iw", "a b", 0, 1);
         Probe.after("", "diw", "", 0, 1);
         Probe.after("", "daw", "", 0, 1);
+        Probe.after("", "ciw", "", 0, 1);
+        Probe.after("a b", "ci\"", "a b", 0, 1);
+        Probe.after("a b", "ci(", "a b", 0, 1);
         Probe.after("a\nb", "d2iw", "a\nb", 0, 1);
     }
 

@@ -314,6 +314,11 @@ public final class PlacesTest {
         Probe.due("lines less ahead", told(pad), "1: -1 102 102 -1");
         Probe.type(pad, "gg2O{ESC}");
         Probe.due("a line more ahead", told(pad), "1: -1 -1 203 203 -1");
+        pad = Probe.pad("a\nb\nc\nd\ne\nf");
+        Probe.type(pad, "zfj3Gzfjzo5Gzfj:2d{ENTER}");
+        Probe.due("those that are left stay as they are", told(pad), "2: -1 -1 -1 304 304");
+        Probe.due("one of them open", Probe.type(pad, "2Gzc"), 0);
+        Probe.due("closed", told(pad), "2: -1 102 102 304 304");
         Probe.due("agrees", pad.agrees(), true);
     }
 

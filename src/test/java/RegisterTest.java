@@ -152,6 +152,9 @@ public final class RegisterTest {
         Probe.after("  a\nb\nc", "yjG2p", "  a\nb\nc\n  a\nb\n  a\nb", 302);
         Probe.after("a\nb", "2yyGp", "a\nb\na\nb", 200);
         Probe.after("", "yyp", "\n", 100);
+        Probe.after("x".repeat(60), "yyp", "x".repeat(60) + "\n" + "x".repeat(60), 100);
+        Probe.after("a\nb", "vjy38p", "a" + "a\nb".repeat(38) + "\nb", 1);
+        Probe.after("a\nb", "vjy39p", "a\nb", 0, 1);
         Probe.after("a", "yy39p", "a\n".repeat(39) + "a", 100);
         Probe.after("a", "yy40p", "a", 0, 1);
     }

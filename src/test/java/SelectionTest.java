@@ -41,6 +41,10 @@ public final class SelectionTest {
         Probe.after("abcdef", "vd", "bcdef", 0);
         Probe.after("abc\ndef", "lvjd", "af", 1);
         Probe.after("abc\n\nd", "lvjd", "a\nd", 0);
+        Probe.after("\n\na", "vjd", "\na", 0);
+        Probe.after("abc", "$vl", "abc", 2, 1);
+        Probe.after("ab cd\nef", "vww", "ab cd\nef", 100);
+        Probe.after("ab cd", "vwwd", "", 0);
         Probe.after("abcdef", "lvlcx{ESC}", "axdef", 1);
         Probe.after("abcdef", "lvlsx{ESC}", "axdef", 1);
         Probe.after("abcdef", "lvly", "abcdef", 1);
