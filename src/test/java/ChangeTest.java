@@ -57,7 +57,9 @@ public final class ChangeTest {
         for (int state : new int[] {-1, 6, 99, Integer.MIN_VALUE, Integer.MAX_VALUE}) {
             Probe.due("parent of " + state, Probe.thrown(() -> pad.parent(state)), "IndexOutOfBoundsException");
         }
-        // the cursor stays if no line differs
+        // the cursor stays if no line differs, and so does its column
+        Probe.after("abc\nabcdef", "~h~$2uj", "abc\nabcdef", 102);
+        Probe.after("abc\nabcdef", "~h~$2g-j", "abc\nabcdef", 102);
         ModalPad other = Probe.pad("ab\ncd");
         Probe.type(other, "xugg~ug+~g-");
         Probe.due("states that are the same", other.states(), 4);

@@ -108,6 +108,8 @@ public final class LineTest {
         Probe.after("a\nb\nc", ":%sort{ENTER}", "a\nb\nc", 200);
         ModalPad pad = Probe.after("a\nb\nb\nc", "jma:%sort{ENTER}", "a\nb\nb\nc", 300);
         Probe.due("nothing is taken out", pad.mark('a'), 100);
+        pad = Probe.after("x\nc\nb\nq", "jma2jmb:2,3sort{ENTER}", "x\nb\nc\nq", 200);
+        Probe.due("but no others", pad.mark('a') * 1000 + pad.mark('b'), -1000 + 300);
         pad = Probe.after("b\na\nc\nd", "2jmajmb:1,3sort{ENTER}", "a\nb\nc\nd", 200);
         Probe.due("all of them are", pad.mark('a') * 1000 + pad.mark('b'), -1000 + 300);
     }

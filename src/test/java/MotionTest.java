@@ -101,6 +101,7 @@ public final class MotionTest {
         }
         fails(text, "7e", 0);
         fails("ab  ", "$e", 3);
+        moves("ab\nc d", "2e", 100);
     }
 
     private static void signsOfLine() {
@@ -125,6 +126,7 @@ public final class MotionTest {
         moves(text, "$Fx;", 1);
         moves(text, "$Fx,", 5);
         moves(text, "tx;", 0);
+        moves(text, "2tx,", 2);
         moves(text, "$Tx,", 4);
         fails(text, ";", 0);
         fails(text, ",", 0);

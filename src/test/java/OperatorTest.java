@@ -140,6 +140,8 @@ public final class OperatorTest {
         Probe.after("a\nx" + full, ">j", "a\nx" + full, 0, 1);
         Probe.after("", ">>", "", 0);
         Probe.after("(\na\n)", ">i(", "  (\n  a\n)", 2);
+        Probe.after("(a\nb)", ">i(", "  (a\n  b)", 2);
+        Probe.after("a\n b\n\nc", ">2}", "  a\n   b\n\nc", 2);
     }
 
     private static void swapping() {
@@ -185,6 +187,9 @@ public final class OperatorTest {
         Probe.after("a \"b\" c \"d\"", "fcdi\"", "a \"b\" c \"\"", 9);
         Probe.after("a \"b\" c \"d\"", "6ldi\"", "a \"b\" c \"\"", 9);
         Probe.after("a \"b\" c \"d", "fcdi\"", "a \"b\" c \"d", 6, 1);
+        Probe.after("a \"b\" c", "4ldi\"", "a \"\" c", 3);
+        Probe.after("a \"b\" c", "fbda\"", "a  c", 2);
+        Probe.after("\"a\" b", "di\"", "\"\" b", 1);
         Probe.after("a \"\" b", "di\"", "a \"\" b", 0, 1);
         Probe.after("a \"\" b", "ci\"x{ESC}", "a \"x\" b", 3);
         Probe.after("f(a(b)c)", "4ldi(", "f(a()c)", 4);
@@ -212,6 +217,7 @@ public final class OperatorTest {
         Probe.after("a\nb\n\n\nc", "2jdip", "a\nb\nc", 200);
         Probe.after("a\nb\n\n\nc", "2jdap", "a\nb", 100);
         Probe.after("a\nb", "dap", "", 0);
+        Probe.after("\nb", "Gdap", "", 0);
         Probe.after("a\nb\n\nc", "d9ip", "\nc", 0);
     }
 

@@ -120,6 +120,9 @@ public final class PlacesTest {
         Probe.type(pad, "G2{OLDER}");
         Probe.due("the others have moved", pad.line() * 10 + pad.jumps(), 23);
         pad = Probe.pad("a\nb\nc\nd\ne\nf");
+        Probe.type(pad, "jGggO{ESC}2{OLDER}");
+        Probe.due("the oldest one, too", pad.line() * 10 + pad.jumps(), 23);
+        pad = Probe.pad("a\nb\nc\nd\ne\nf");
         Probe.type(pad, "2G4G6G2G");
         Probe.type(pad, "O{ESC}gg4{OLDER}");
         Probe.due("by a line more, too", Probe.place(pad) * 10 + pad.jumps(), 2005);
@@ -168,6 +171,11 @@ public final class PlacesTest {
         Probe.type(pad, "ggzdzdzdGzdzd");
         Probe.due("zd", pad.folds() * 100 + pad.failures(), 108);
         Probe.due("agrees", pad.agrees(), true);
+        pad = Probe.pad("a\nb\nc\nd");
+        Probe.due("overlapping the first one", Probe.type(pad, "zfjzojzfj") * 10 + pad.folds(), 11);
+        pad = Probe.pad("a\n\nc");
+        Probe.type(pad, "zf2$");
+        Probe.due("up to an empty line", told(pad), "1: 1 1 -1");
         pad = Probe.pad("a\nb\n\nd\n\ne\nf");
         Probe.type(pad, "zfip2Gjjzfap");
         Probe.due("objects", told(pad), "2: 1 1 -1 304 304 -1 -1");
@@ -303,6 +311,9 @@ public final class PlacesTest {
         pad = Probe.pad("a\nb\nc");
         Probe.type(pad, "x2pyypyypzf2juu");
         Probe.due("states leave them, as far as lines reach", pad.lines() * 10 + pad.folds(), 30);
+        pad = Probe.pad("a\nb\nc\nd");
+        Probe.type(pad, "Gyypyyp5Gzfjggzfjzo2u");
+        Probe.due("those that are left stay as they are", told(pad), "1: -1 -1 -1 -1");
         pad = Probe.pad("a\nb\nc");
         Probe.type(pad, "GyypyypkkzfGuu");
         Probe.due("with one line it is gone", pad.lines() * 10 + pad.folds(), 30);

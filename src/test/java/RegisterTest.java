@@ -138,6 +138,9 @@ public final class RegisterTest {
         Probe.after("ab", "\"ayl\"Ap", "aab", 1);
         Probe.after("ab", "yl\"0p\"-p", "aab", 1, 1);
         Probe.after("x".repeat(40), "yl20p", "x".repeat(60), 20);
+        Probe.after("x", "yl59p", "x".repeat(60), 59);
+        Probe.after("ab\n" + "x".repeat(60) + "\n", "vj$yGp",
+            "ab\n" + "x".repeat(60) + "\nab\n" + "x".repeat(60), 200);
         Probe.after("x".repeat(40), "yl21p", "x".repeat(40), 0, 1);
         // the rest of the line goes to the last one of the lines that are put
         String wide = "w".repeat(50);

@@ -118,6 +118,8 @@ public final class SelectionTest {
         Probe.type(pad, "d");
         Probe.due("iw", Probe.text(pad), "foo  baz");
         Probe.after("foo bar baz", "wvawd", "foo baz", 4);
+        Probe.after("a b", "viw", "a b", 0);
+        Probe.after("a b", "viwd", " b", 0);
         Probe.after("foo bar baz", "Vv3iwd", " baz", 0);
         pad = Probe.after("foo bar", "Viw", "foo bar", 2);
         Probe.due("iw selects signs", pad.mode(), ModalPad.SIGNS);
