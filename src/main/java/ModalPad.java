@@ -47,7 +47,7 @@ public final class ModalPad {
 
     // ---- texts that are loaded
 
-    public int feed(long bytes) {
+    public int feed(long bytes) throws IllegalArgumentException, IllegalStateException {
         int fresh = 0;
         for (int i = 0; i < 8; i++) {
             int code = byteOf(bytes, i);
@@ -67,7 +67,7 @@ public final class ModalPad {
         return tape.size;
     }
 
-    public int load() {
+    public int load() throws IllegalStateException {
         if (!fitsText(tape)) {
             throw new IllegalStateException("no text is that long");
         }
@@ -96,7 +96,7 @@ public final class ModalPad {
         return failures() - ahead;
     }
 
-    public int tick(int ticks) {
+    public int tick(int ticks) throws IllegalArgumentException {
         if (ticks < 1 || ticks > MAX_TICKS) {
             throw new IllegalArgumentException("1 to 100 ticks");
         }
@@ -109,7 +109,7 @@ public final class ModalPad {
         return failures() - ahead;
     }
 
-    public int map(int mode, long from, long to, boolean isFinal) {
+    public int map(int mode, long from, long to, boolean isFinal) throws IllegalArgumentException, IllegalStateException {
         int width = keysIn(from);
         if (mode < NORMAL || mode > SELECTION || width < 1 || width > 4 || keysIn(to) == NONE) {
             throw new IllegalArgumentException("no such map can be");
@@ -120,7 +120,7 @@ public final class ModalPad {
         return board.mapCount;
     }
 
-    public int unmap(int mode, long from) {
+    public int unmap(int mode, long from) throws IllegalArgumentException, IllegalStateException {
         int width = keysIn(from);
         if (mode < NORMAL || mode > SELECTION || width < 1 || width > 4) {
             throw new IllegalArgumentException("no such map can be");
@@ -144,14 +144,14 @@ public final class ModalPad {
         return pad.text.count;
     }
 
-    public int length(int line) {
+    public int length(int line) throws IndexOutOfBoundsException {
         if (line < 0 || line >= pad.text.count) {
             throw new IndexOutOfBoundsException("no such line");
         }
         return pad.text.sizeOf(line);
     }
 
-    public char sign(int line, int column) {
+    public char sign(int line, int column) throws IndexOutOfBoundsException {
         if (line < 0 || line >= pad.text.count || column < 0 || column >= pad.text.sizeOf(line)) {
             throw new IndexOutOfBoundsException("no such place");
         }
@@ -182,7 +182,7 @@ public final class ModalPad {
         return pad.places.otherCount;
     }
 
-    public int cursorAt(int place) {
+    public int cursorAt(int place) throws IndexOutOfBoundsException {
         if (place < 0 || place >= pad.places.otherCount) {
             throw new IndexOutOfBoundsException("not so many cursors");
         }
@@ -191,21 +191,21 @@ public final class ModalPad {
 
     // ---- registers, marks, folds
 
-    public int registerKind(char register) {
+    public int registerKind(char register) throws IllegalArgumentException {
         if (Registers.indexOf(register) == NONE) {
             throw new IllegalArgumentException("no such register");
         }
         return pad.registers.named(register).kind;
     }
 
-    public int registerLength(char register) {
+    public int registerLength(char register) throws IllegalArgumentException {
         if (Registers.indexOf(register) == NONE) {
             throw new IllegalArgumentException("no such register");
         }
         return pad.registers.named(register).size;
     }
 
-    public char registerAt(char register, int place) {
+    public char registerAt(char register, int place) throws IllegalArgumentException, IndexOutOfBoundsException {
         if (Registers.indexOf(register) == NONE) {
             throw new IllegalArgumentException("no such register");
         }
@@ -216,7 +216,7 @@ public final class ModalPad {
         return (char) sign;
     }
 
-    public int mark(char letter) {
+    public int mark(char letter) throws IllegalArgumentException {
         if (letter < 'a' || letter > 'z') {
             throw new IllegalArgumentException("marks are a to z");
         }
@@ -227,7 +227,7 @@ public final class ModalPad {
         return pad.places.foldCount;
     }
 
-    public int foldOf(int line) {
+    public int foldOf(int line) throws IndexOutOfBoundsException {
         if (line < 0 || line >= pad.text.count) {
             throw new IndexOutOfBoundsException("no such line");
         }
@@ -251,7 +251,7 @@ public final class ModalPad {
         return pad.states.count;
     }
 
-    public int parent(int state) {
+    public int parent(int state) throws IndexOutOfBoundsException {
         if (state < 0 || state >= pad.states.count) {
             throw new IndexOutOfBoundsException("no such state");
         }
