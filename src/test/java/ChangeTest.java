@@ -57,6 +57,9 @@ public final class ChangeTest {
         for (int state : new int[] {-1, 6, 99, Integer.MIN_VALUE, Integer.MAX_VALUE}) {
             Probe.due("parent of " + state, Probe.thrown(() -> pad.parent(state)), "IndexOutOfBoundsException");
         }
+        // lines that one of both has not differ, and the first of them is gone to
+        Probe.after("a\nb\nc", "Gox{ENTER}y{ESC}u{REDO}", "a\nb\nc\nx\ny", 300);
+        Probe.after("a\nb\nc", "Gox{ENTER}y{ESC}ggu", "a\nb\nc", 200);
         // the cursor stays if no line differs, and so does its column
         Probe.after("abc\nabcdef", "~h~$2uj", "abc\nabcdef", 102);
         Probe.after("abc\nabcdef", "~h~$2g-j", "abc\nabcdef", 102);
@@ -114,6 +117,8 @@ public final class ChangeTest {
 
     private static void lastChangeWithCount() {
         Probe.after("abcdefghij", "x3.", "efghij", 0);
+        Probe.after("abcdefghijkl", "x9.", "kl", 0);
+        Probe.after("abcdefghijkl", "x10.", "l", 0);
         Probe.after("abcdefghij", "x3..", "hij", 0);
         Probe.after("abcdefghij", "2x3.", "fghij", 0);
         Probe.after("abcdefghij", "3x1.", "efghij", 0);

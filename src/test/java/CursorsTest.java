@@ -6,6 +6,7 @@ public final class CursorsTest {
         changing();
         inserting();
         becomingOne();
+        movingWithLines();
         mainLine();
         failing();
         leaving();
@@ -106,6 +107,19 @@ public final class CursorsTest {
         shows("ab\na", "ma/a{ENTER}gg0gm'a", "ab\na", 0, "");
     }
 
+    /** Further ones in lines that are taken out, or put in, or that change their order. */
+    private static void movingWithLines() {
+        ModalPad pad = Probe.pad("a\na\nb\na");
+        Probe.type(pad, "/a{ENTER}gg0gmcj");
+        Probe.due("one is gone while INSERT goes on", Probe.cursors(pad), "200");
+        Probe.type(pad, "{ESC}");
+        Probe.due("the other one fails", Probe.text(pad) + Probe.cursors(pad), "\nb\na200");
+        shows("x\na\na\nb", "/a{ENTER}ngmdk", "x\nb", 100, "");
+        shows("ab,cab", "/ab{ENTER}0gmdf,", "cab", 0, "2");
+        shows("x\na1\na2", "yy/a{ENTER}gmp", "x\na1\nx\na2\nx", 200, "400");
+        shows("((()))", "/({ENTER}0gm%", "((()))", 5, "3 4");
+    }
+
     private static void mainLine() {
         // another one takes out lines ahead of the main one
         shows("q\na\nb q\nc\nd", "/q{ENTER}gmd2j", "q\na", 100, "0");
@@ -181,6 +195,16 @@ public final class CursorsTest {
         Probe.due("all were done", pad.length(2), 54);
         Probe.type(pad, "{ESC}hhh");
         Probe.due("and two keys more", pad.column(), 51);
+        Probe.due("agrees", pad.agrees(), true);
+        // an ESC that is typed is one, at each cursor: 6 keys, 99 times 8, and 2 of l
+        pad = Probe.pad("a   a");
+        Probe.type(pad, "/a{ENTER}0gm");
+        for (int i = 0; i < 99; i++) {
+            Probe.type(pad, "ax{BACK}{ESC}");
+        }
+        Probe.due("they stay", Probe.place(pad) + Probe.cursors(pad), "04");
+        Probe.type(pad, "ll");
+        Probe.due("the first l is the last key", Probe.place(pad) * 1000 + pad.taken(), 1000 + 6 + 99 * 4 + 2);
         Probe.due("agrees", pad.agrees(), true);
         // they are no played keys by their number
         pad = Probe.pad("a\na\na\na\na\na\na\na\na\na");

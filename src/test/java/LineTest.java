@@ -11,6 +11,7 @@ public final class LineTest {
         keysForLines();
         global();
         globalOfKeys();
+        oneBehindAnother();
         failing();
         Probe.end();
     }
@@ -106,6 +107,13 @@ public final class LineTest {
         Probe.after("b\nab\na\n\nB", ":%sort{ENTER}", "\nB\na\nab\nb", 400);
         Probe.after("c\nb\na", ":2,3sort{ENTER}", "c\na\nb", 200);
         Probe.after("a\nb\nc", ":%sort{ENTER}", "a\nb\nc", 200);
+        Probe.after("abc\nabb\nab\naba", ":%sort{ENTER}", "ab\naba\nabb\nabc", 300);
+        Probe.after("x\nabc\nabb\nab\naba", ":2,$sort{ENTER}", "x\nab\naba\nabb\nabc", 400);
+        // a sign that was taken away is not looked at
+        Probe.after("abz\nabc", "$x:%sort{ENTER}", "ab\nabc", 100);
+        for (String line : new String[] {"sabc", "soxx", "sorx", "sxrt", "soxt", "sor", "sorts", "so", "s"}) {
+            Probe.after("b\na", ":%" + line + "{ENTER}", "b\na", 0, 1);
+        }
         ModalPad pad = Probe.after("a\nb\nb\nc", "jma:%sort{ENTER}", "a\nb\nb\nc", 300);
         Probe.due("nothing is taken out", pad.mark('a'), 100);
         pad = Probe.after("x\nc\nb\nq", "jma2jmb:2,3sort{ENTER}", "x\nb\nc\nq", 200);
@@ -197,6 +205,18 @@ public final class LineTest {
         Probe.after(text, ":g/a/nxxx{ENTER}", "\nb\na2\nb\na3", 0, 1);
         Probe.after("a\nb\na", "qzxqu:g/a/n@zij{ENTER}", "j\nb\nj", 200);
         Probe.after("x/y\nz", ":g/x/ns/{ENTER}", "//y\nz", 0);
+        // lines that are sorted are taken out, and not there any more
+        text = "~:4,5sort\na\na\nd\nc";
+        Probe.after(text, "\"ayyj:2,5n@a{ENTER}", "~:4,5sort\nA\nA\nc\nd", 400);
+    }
+
+    /** A command line knows nothing of those ahead of it. */
+    private static void oneBehindAnother() {
+        Probe.after("a\nb\nb a", ":g/a/d{ENTER}:s/b/c/{ENTER}", "c", 0);
+        Probe.after("a\nb\nb a", ":g/a/s/a/x/{ENTER}:2d{ENTER}", "x\nb x", 100);
+        Probe.after("x\na\nb\na\nb", ":1d{ENTER}G:g/a/d{ENTER}", "b\nb", 100);
+        Probe.after("x\na\nb\na", "2G:%s/q/r/{ENTER}:d{ENTER}", "x\nb\na", 100, 1);
+        Probe.after("aa\naa", ":%s/a/b/g{ENTER}:s/b/a/{ENTER}", "bb\nab", 100);
     }
 
     private static void failing() {

@@ -6,6 +6,7 @@ public final class MapTest {
         ticking();
         modes();
         loops();
+        limitOfLoops();
         failures();
         changing();
         wrongInputs();
@@ -185,6 +186,27 @@ public final class MapTest {
         Probe.due("taken", pad.taken(), 240);
     }
 
+    private static void limitOfLoops() {
+        ModalPad pad = Probe.pad("abc");
+        map(pad, ModalPad.NORMAL, "b", "~~b", false);
+        Probe.due("a map by which there would be 201", Probe.type(pad, "b"), 1);
+        Probe.due("is not gone by", pad.taken(), 66 * 2);
+        // ticks do not begin the count anew, a typed key does
+        pad = Probe.pad("abc");
+        map(pad, ModalPad.NORMAL, "K", "~~~~~~~b", false);
+        map(pad, ModalPad.NORMAL, "b", "~b", false);
+        map(pad, ModalPad.NORMAL, "bZ", "", false);
+        Probe.type(pad, "K");
+        Probe.due("the last one waits", pad.waiting() * 10 + pad.taken(), 17);
+        Probe.due("too many by ticks", pad.tick(5), 1);
+        Probe.due("8 came ahead of them", pad.taken(), 7 + 96);
+        Probe.type(pad, "K");
+        Probe.due("too many by a key", Probe.type(pad, "0"), 1);
+        Probe.due("none came since it was typed", pad.taken(), 7 + 96 + 7 + 100 + 1);
+        Probe.due("which is done", pad.column(), 0);
+        Probe.due("agrees", pad.agrees(), true);
+    }
+
     private static void failures() {
         ModalPad pad = Probe.pad("abc");
         map(pad, ModalPad.NORMAL, "K", "hhx$", false);
@@ -234,6 +256,16 @@ public final class MapTest {
         pad.load();
         Probe.type(pad, "K");
         Probe.due("maps stay behind load", pad.column(), 1);
+        // what a map is stays with it as another one is taken away
+        pad = Probe.pad("abcdef");
+        map(pad, ModalPad.SELECTION, "K", "o", false);
+        map(pad, ModalPad.NORMAL, "M", "x", false);
+        map(pad, ModalPad.NORMAL, "L", "lM", true);
+        Probe.due("the first one", pad.unmap(ModalPad.SELECTION, 'K'), 2);
+        Probe.due("the last one is FINAL", Probe.type(pad, "LM") * 10 + pad.column(), 11);
+        Probe.due("and of NORMAL", Probe.text(pad), "acdef");
+        Probe.due("one of four keys", map(pad, ModalPad.NORMAL, "wxyz", "x", false), 3);
+        Probe.due("is taken away", pad.unmap(ModalPad.NORMAL, Probe.packed("wxyz")), 2);
         // four keys, and all that are keys
         map(pad, ModalPad.NORMAL, "{ESC}{ENTER}{BACK}{REDO}", "{RECT}{OLDER}{NEWER}~12345", true);
         Probe.type(pad, "{ESC}{ENTER}{BACK}");

@@ -4,6 +4,7 @@ public final class MotionTest {
         columns();
         linesAndWantedColumn();
         words();
+        fromWhereCommandsLeaveIt();
         signsOfLine();
         linesByNumber();
         paragraphs();
@@ -102,6 +103,14 @@ public final class MotionTest {
         fails(text, "7e", 0);
         fails("ab  ", "$e", 3);
         moves("ab\nc d", "2e", 100);
+    }
+
+    private static void fromWhereCommandsLeaveIt() {
+        Probe.after("ab cd", "wA z{ESC}e", "ab cd z", 6, 1);
+        Probe.after("ab cd", "wA z{ESC}}", "ab cd z", 6, 1);
+        moves("x".repeat(59) + "y\nab", "/y{ENTER}jN", 59);
+        moves("ab(c", "t(", 1);
+        moves("(abc", "$T(", 1);
     }
 
     private static void signsOfLine() {

@@ -14,6 +14,7 @@ public final class OperatorTest {
         joining();
         replacing();
         grammar();
+        edges();
         Probe.end();
     }
 
@@ -158,6 +159,26 @@ public final class OperatorTest {
         Probe.after("abcd", "9~", "ABCD", 3);
         Probe.after("", "~", "", 0, 1);
         Probe.after("a{z`@[", "9~", "A{Z`@[", 5);
+    }
+
+    /** Texts and lines that are hardly there, or just full. */
+    private static void edges() {
+        Probe.after("a", "D", "", 0);
+        Probe.after("a", "diw", "", 0);
+        Probe.after("foo bar", "wc9iw", "foo bar", 4, 1);
+        Probe.after("foo bar", "ciwx{ESC}$d9iw", "x bar", 4, 1);
+        Probe.after("\na", "jdap", "", 0);
+        Probe.after("a\n\n", "Gdip", "a", 0);
+        Probe.after("ab", ">0", "ab", 0, 1);
+        Probe.after("  ab", "0</  ab{ENTER}", "  ab", 0, 1);
+        Probe.after("zZaA", "4~", "ZzAa", 3);
+        Probe.after("zZaA", "g~~", "ZzAa", 0);
+        Probe.after("a(b)c(d", "dt(", "(b)c(d", 0);
+        Probe.after("a(b)c(d", "$dF(", "a(b)cd", 5);
+        Probe.after("\n" + "x".repeat(60), "J", "x".repeat(60), 0);
+        Probe.after("\n " + "x".repeat(59), "J", "x".repeat(59), 0);
+        // of a line of blanks the last sign is the wanted column
+        Probe.after("x\n   \nabcdef", "ddj", "   \nabcdef", 102);
     }
 
     private static void wordObjects() {

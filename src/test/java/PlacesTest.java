@@ -5,6 +5,8 @@ public final class PlacesTest {
         jumps();
         olderAndNewer();
         jumpsThatMove();
+        jumpsThatStay();
+        foldsWithinOneAnother();
         foldsAreMade();
         foldsAreChanged();
         cursorInFolds();
@@ -148,6 +150,54 @@ public final class PlacesTest {
         return pad.folds() + ": " + told;
     }
 
+    /** The place that was gone to last is known as long as it is there. */
+    private static void jumpsThatStay() {
+        ModalPad pad = Probe.pad("a\nb\nc\nd\ne\nf");
+        Probe.type(pad, "3G5G6G{OLDER}{OLDER}:1d{ENTER}");
+        Probe.due("one is gone", pad.jumps(), 3);
+        Probe.due("NEWER of that in line 2", Probe.type(pad, "{NEWER}"), 0);
+        Probe.due("leads on", Probe.place(pad), 300);
+        pad = Probe.pad("a\nb\nc\nd");
+        Probe.type(pad, "Gox{ENTER}y{ENTER}z{ESC}5G2GG{OLDER}u");
+        Probe.due("as far as lines reach", pad.jumps(), 2);
+        Probe.due("OLDER of that in line 1", Probe.type(pad, "{OLDER}"), 0);
+        Probe.due("leads on", Probe.place(pad), 0);
+        Probe.type(pad, "G{OLDER}{OLDER}");
+        Probe.due("those that are left stay", Probe.place(pad), 100);
+        Probe.due("agrees", pad.agrees(), true);
+    }
+
+    /** The innermost fold, in whatever order they were made. */
+    private static void foldsWithinOneAnother() {
+        for (String keys : new String[] {"3Gzfj2Gzf2jzo", "2Gzf3jzojzfjk"}) {
+            ModalPad pad = Probe.pad("a\nb\nc\nd\ne\nf");
+            Probe.type(pad, keys);
+            Probe.due("the outer one is open", told(pad), "2: -1 -1 203 203 -1 -1");
+            Probe.type(pad, "jzd");
+            Probe.due("the inner one is away", told(pad), "1: -1 -1 -1 -1 -1 -1");
+            Probe.type(pad, "zc");
+            Probe.due("the outer one is there", told(pad), "1: -1 104 104 104 104 -1");
+        }
+        // of two of the same lines the closed one
+        for (String keys : new String[] {"zfjzozf2jzo3Gddggzc", "zf2jzozfjzo3Gddggzc"}) {
+            ModalPad pad = Probe.pad("a\nb\nc\nd");
+            Probe.type(pad, keys);
+            Probe.due("two of the same lines", told(pad), "2: 1 1 -1");
+            Probe.type(pad, "zd");
+            Probe.due("the open one is left", told(pad), "1: -1 -1 -1");
+            Probe.type(pad, "zc");
+            Probe.due("and is closed", told(pad), "1: 1 1 -1");
+            Probe.due("no failure", pad.failures(), 0);
+        }
+        // a state with fewer lines
+        ModalPad pad = Probe.pad("a\nb\nc\nd");
+        Probe.type(pad, "Gox{ENTER}y{ENTER}z{ESC}6Gzfjggzfj3Gzf2ju");
+        Probe.due("folds as far as lines reach", told(pad), "2: 1 1 203 203");
+        Probe.due("agrees", pad.agrees(), true);
+        // motions but j and k lead to lines of a closed fold
+        Probe.after("a\nb\nc\nd\ne", "4Gma3Gzf2jggd'a", "e", 0);
+    }
+
     private static void foldsAreMade() {
         ModalPad pad = Probe.pad("a\nb\n\nd\ne\nf");
         Probe.due("none", told(pad), "0: -1 -1 -1 -1 -1 -1");
@@ -176,6 +226,8 @@ public final class PlacesTest {
         pad = Probe.pad("a\n\nc");
         Probe.type(pad, "zf2$");
         Probe.due("up to an empty line", told(pad), "1: 1 1 -1");
+        Probe.type(pad, "zd/c{ENTER}ggzfn");
+        Probe.due("to the length of the empty line", told(pad), "1: 1 1 -1");
         pad = Probe.pad("a\nb\n\nd\n\ne\nf");
         Probe.type(pad, "zfip2Gjjzfap");
         Probe.due("objects", told(pad), "2: 1 1 -1 304 304 -1 -1");

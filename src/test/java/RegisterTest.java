@@ -97,6 +97,19 @@ public final class RegisterTest {
         }
         Probe.due("3000 signs", pad.registerLength('c'), 3000);
         Probe.due("one more", Probe.type(pad, "\"Cyl"), 1);
+        // 3000 signs, line ends within them, but none between what is of signs
+        pad = Probe.pad("x".repeat(59));
+        Probe.type(pad, "yy39pgg0v39j\"zy");
+        Probe.due("39 lines, and a sign behind them", pad.registerLength('z'), 39 * 60 + 1);
+        Probe.type(pad, "gg0v10j\"Zy");
+        for (int i = 0; i < 58; i++) {
+            Probe.due("a sign more", Probe.type(pad, "\"Zyl"), 0);
+        }
+        Probe.due("3000 signs", pad.registerKind('z') * 10000 + pad.registerLength('z'), 13000);
+        Probe.due("3001 signs", Probe.type(pad, "\"Zyl"), 1);
+        pad = Probe.pad("ab");
+        Probe.type(pad, "\"zyl\"Zyl");
+        holds(pad, "z", "1:aa");
     }
 
     private static void numbered() {
@@ -169,6 +182,9 @@ public final class RegisterTest {
         Probe.after(text, "{RECT}jjlyP", "ababc\nd d\nefefg\nhi", 0);
         Probe.after(text, "{RECT}jjlygg2P", "abababc\nd d d\nefefefg\nhi", 0);
         Probe.after("ab\n", "{RECT}yjp", "ab\na", 100);
+        String ten = "abcdefghij\n" + "x".repeat(50);
+        Probe.after(ten, "{RECT}$yj$p", ten + "abcdefghij", 150);
+        Probe.after(ten + "x", "{RECT}$yj$p", ten + "x", 150, 1);
         Probe.after("ab\ncd\n\n", "{RECT}jyGp", "ab\ncd\n\na\nc", 300);
         String wide = "x".repeat(58);
         Probe.after("ab\ncd\n" + wide + "\n" + wide, "{RECT}jlyjjP", "ab\ncd\nab" + wide + "\ncd" + wide, 200);

@@ -57,6 +57,9 @@ public final class SelectionTest {
         Probe.after("ab\ncd\nef", "vjJ", "ab cd\nef", 2);
         Probe.after("ab\ncd\nef", "vJ", "ab cd\nef", 2);
         Probe.after("ab\ncd\nef", "vGJ", "ab cd ef", 5);
+        Probe.due("J ends it", Probe.after("ab\ncd", "vJ", "ab cd", 2).mode(), ModalPad.NORMAL);
+        Probe.due("r ends it", Probe.after("ab\ncd", "vlrx", "xx\ncd", 0).mode(), ModalPad.NORMAL);
+        Probe.due("what fails leaves it", Probe.after("ab", "vJ", "ab", 0, 1).mode(), ModalPad.SIGNS);
         Probe.after("abcdef", "2lvlohd", "aef", 1);
         Probe.after("abcdef", "2lvlold", "abcef", 3);
         Probe.after("abc def", "v/d{ENTER}dn", "ef", 0, 1);

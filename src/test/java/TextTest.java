@@ -65,6 +65,16 @@ public final class TextTest {
         Probe.due("line ends", pad.load(), 4);
         Probe.due("text", Probe.text(pad), "one\n\ntwo\n");
         Probe.due("the tape is empty", pad.feed(0), 0);
+        Probe.feed(pad, "u\nv\nw\nx\ny");
+        pad.load();
+        Probe.due("nothing of an earlier text is left", Probe.text(pad), "u\nv\nw\nx\ny");
+        Probe.feed(pad, "a\nabc");
+        pad.load();
+        Probe.type(pad, "j$");
+        Probe.feed(pad, "a\nabc");
+        pad.load();
+        Probe.type(pad, "j");
+        Probe.due("column 0 is the wanted one", Probe.place(pad), 100);
         Probe.feed(pad, "x".repeat(60) + "\n" + "y".repeat(60));
         Probe.due("60 signs", pad.load(), 2);
         Probe.feed(pad, "\n".repeat(39));
