@@ -117,8 +117,8 @@ public final class ChangeTest {
 
     private static void lastChangeWithCount() {
         Probe.after("abcdefghij", "x3.", "efghij", 0);
-        Probe.after("abcdefghijkl", "x9.", "kl", 0);
-        Probe.after("abcdefghijkl", "x10.", "l", 0);
+        Probe.after("abcdefghijkl", "xl9.", "bl", 1);
+        Probe.after("abcdefghijkl", "xl10.", "b", 0);
         Probe.after("abcdefghij", "x3..", "hij", 0);
         Probe.after("abcdefghij", "2x3.", "fghij", 0);
         Probe.after("abcdefghij", "3x1.", "efghij", 0);

@@ -107,6 +107,7 @@ public final class MotionTest {
 
     private static void fromWhereCommandsLeaveIt() {
         Probe.after("ab cd", "wA z{ESC}e", "ab cd z", 6, 1);
+        Probe.after("ab cd", "wA z{ESC}b", "ab cd z", 3);
         Probe.after("ab cd", "wA z{ESC}}", "ab cd z", 6, 1);
         moves("x".repeat(59) + "y\nab", "/y{ENTER}jN", 59);
         moves("ab(c", "t(", 1);

@@ -167,7 +167,7 @@ public final class OperatorTest {
         Probe.after("a", "diw", "", 0);
         Probe.after("foo bar", "wc9iw", "foo bar", 4, 1);
         Probe.after("foo bar", "ciwx{ESC}$d9iw", "x bar", 4, 1);
-        Probe.after("\na", "jdap", "", 0);
+        Probe.after("b\n", "jdap", "", 0);
         Probe.after("a\n\n", "Gdip", "a", 0);
         Probe.after("ab", ">0", "ab", 0, 1);
         Probe.after("  ab", "0</  ab{ENTER}", "  ab", 0, 1);

@@ -179,7 +179,7 @@ public final class PlacesTest {
             Probe.due("the outer one is there", told(pad), "1: -1 104 104 104 104 -1");
         }
         // of two of the same lines the closed one
-        for (String keys : new String[] {"zfjzozf2jzo3Gddggzc", "zf2jzozfjzo3Gddggzc"}) {
+        for (String keys : new String[] {"zfjzozf2jzozc3Gddgg", "zf2jzozfjzozc3Gddgg"}) {
             ModalPad pad = Probe.pad("a\nb\nc\nd");
             Probe.type(pad, keys);
             Probe.due("two of the same lines", told(pad), "2: 1 1 -1");

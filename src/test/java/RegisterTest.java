@@ -97,6 +97,13 @@ public final class RegisterTest {
         }
         Probe.due("3000 signs", pad.registerLength('c'), 3000);
         Probe.due("one more", Probe.type(pad, "\"Cyl"), 1);
+        pad = Probe.pad("x".repeat(59));
+        Probe.type(pad, "yy39pgg\"dy2l\"D10yy\"D39yy");
+        for (int i = 0; i < 28; i++) {
+            Probe.due("a sign as a line", Probe.type(pad, "\"Dyl"), 0);
+        }
+        Probe.due("2999 signs", pad.registerLength('d'), 2999);
+        Probe.due("one more, and a line end", Probe.type(pad, "\"Dyl"), 1);
         // 3000 signs, line ends within them, but none between what is of signs
         pad = Probe.pad("x".repeat(59));
         Probe.type(pad, "yy39pgg0v39j\"zy");
