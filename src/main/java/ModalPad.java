@@ -3096,6 +3096,8 @@ public final class ModalPad {
         private final int[] names = new int[ROOM * MAX_LINES];
         private final int[] nameCounts = new int[ROOM];
         private final int[] nameAts = new int[ROOM];
+        /** Whether the keys begin to play anew for each of the lines, as n does by g. */
+        private final boolean[] afresh = new boolean[ROOM];
         int depth = 0;
         /** How many keys were played since a key was taken. */
         int played = 0;
@@ -3117,6 +3119,7 @@ public final class ModalPad {
             times[depth] = many;
             nameCounts[depth] = 0;
             nameAts[depth] = 0;
+            afresh[depth] = false;
             depth++;
             return true;
         }
@@ -3146,8 +3149,13 @@ public final class ModalPad {
         }
 
         /** Makes the keys those that were played already, so that the first line is gone to first. */
-        void waitForLine() {
+        void waitForLine(boolean isAfresh) {
             ats[top()] = strips[top()].size;
+            afresh[top()] = isAfresh;
+        }
+
+        boolean isAfresh() {
+            return afresh[top()];
         }
 
         boolean hasBegun() {
@@ -3284,9 +3292,6 @@ public final class ModalPad {
             failures++;
             failed = true;
             player.depth = 0;
-            if (mode == LINE) {
-                mode = NORMAL;
-            }
             if (mode != INSERT) {
                 command.clear();
             }
@@ -3370,6 +3375,7 @@ public final class ModalPad {
                     player.close();
                 } else {
                     player.beginKeys();
+                    places.otherCount = player.isAfresh() ? 0 : places.otherCount;
                     places.go(text, row, 0);
                     places.hold(text);
                 }
@@ -3433,7 +3439,7 @@ public final class ModalPad {
             }
             places.otherCount = 0;
             player.strip().partOf(liner.typed, ofKeys ? liner.inner + 1 : 0, liner.typed.size);
-            player.waitForLine();
+            player.waitForLine(liner.global);
             return player.hasNames();
         }
 

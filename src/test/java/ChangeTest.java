@@ -271,12 +271,47 @@ public final class ChangeTest {
         Probe.due("20 times", pad.length(0), 39);
         Probe.due("as one change", pad.states(), 3);
         Probe.due("agrees", pad.agrees(), true);
-        // a command line that is not given to its end is dropped
-        pad = Probe.pad("ab");
-        Probe.type(pad, "qa" + "lh".repeat(48) + ":zzz{BACK}{BACK}{BACK}{ESC}q0@a");
-        Probe.due("101 keys", pad.mode() * 100 + pad.given() * 10 + pad.failures(), 1);
+        lineCutOff();
         // n is one of them, too
         Probe.after("ab", "qa:n~@a{ENTER}q:n@a{ENTER}", "ab", 1, 2);
+    }
+
+    /** A command line that is not played to its end goes on, with the signs that it has. */
+    private static void lineCutOff() {
+        ModalPad pad = Probe.pad("ab");
+        Probe.type(pad, "qa" + "lh".repeat(48) + ":zzz{BACK}{BACK}{BACK}{ESC}q0@a");
+        Probe.due("101 keys", pad.mode() * 100 + pad.given() * 10 + pad.failures(), 531);
+        Probe.type(pad, "{BACK}{BACK}{BACK}");
+        Probe.due("it is not ended", pad.mode() * 10 + pad.given(), 50);
+        Probe.type(pad, "{BACK}");
+        Probe.due("BACK ends it", pad.mode(), ModalPad.NORMAL);
+        pad = Probe.pad("abc\ncd");
+        Probe.type(pad, "qa" + "lh".repeat(48) + "x:2d0{BACK}");
+        Probe.due("recorded to its end", pad.mode() * 10 + pad.given(), 52);
+        Probe.type(pad, "{ESC}q0@a");
+        Probe.due("a failure", pad.failures(), 1);
+        Probe.due("cut off", pad.mode() * 10 + pad.given(), 52);
+        Probe.due("what was done ahead of it", Probe.text(pad), "c\ncd");
+        Probe.due("is a state", pad.states() * 10 + pad.state(), 32);
+        Probe.type(pad, "{ENTER}");
+        Probe.due("ENTER does it", Probe.text(pad), "c");
+        Probe.due("no failure more", pad.failures() * 10 + pad.mode(), 10);
+        Probe.due("agrees", pad.agrees(), true);
+        // what comes from maps is dropped by it, what is typed goes on
+        pad = Probe.pad(":x");
+        pad.map(ModalPad.NORMAL, Probe.packed("Z"), Probe.packed("51@azz"), false);
+        Probe.due("a failure", Probe.type(pad, "\"ay$Z"), 1);
+        Probe.due("60 signs", pad.mode() * 100 + pad.given(), 560);
+        Probe.type(pad, "{BACK}{BACK}");
+        Probe.due("BACK", pad.mode() * 100 + pad.given(), 558);
+        Probe.due("ENTER ends it", Probe.type(pad, "{ENTER}"), 1);
+        Probe.due("NORMAL", pad.mode() * 100 + pad.given(), 0);
+        Probe.due("agrees", pad.agrees(), true);
+        // n does not end what is given by keys of which one fails
+        pad = Probe.pad(":xx");
+        Probe.type(pad, "\"ay$:n34@a{ENTER}");
+        Probe.due("a failure", pad.failures(), 1);
+        Probe.due("LINE goes on", pad.mode(), ModalPad.LINE);
     }
 
     private static void limitOfKeys() {

@@ -205,6 +205,15 @@ public final class LineTest {
         Probe.after(text, ":g/a/nxxx{ENTER}", "\nb\na2\nb\na3", 0, 1);
         Probe.after("a\nb\na", "qzxqu:g/a/n@zij{ENTER}", "j\nb\nj", 200);
         Probe.after("x/y\nz", ":g/x/ns/{ENTER}", "//y\nz", 0);
+        // n by g begins for each line, and leaves one cursor then; n for several lines begins once
+        Probe.after("xa\nxb\nq1\nq2", "/q{ENTER}:g/x/nxgm{ENTER}", "a\nb\nq1\nq2", 200);
+        Probe.after("xa\nxb\nq1\nq2", "/q{ENTER}:1,2nxgm{ENTER}", "a\nb\nq1\n2", 200);
+        ModalPad pad = Probe.after("xa\nxb\nxq", "/q{ENTER}:g/x/ngml{ENTER}", "xa\nxb\nxq", 201, 1);
+        Probe.due("cursors", pad.cursors(), 0);
+        pad = Probe.after("qa\nqb\nqc\nd", "/q{ENTER}:g/q/nxgm{ENTER}", "a\nb\nc\nd", 200, 1);
+        Probe.due("the last one found none", pad.cursors(), 0);
+        pad = Probe.after("xa\nxb\nq1\nq2", "/q{ENTER}:g/x/ngm{ENTER}", "xa\nxb\nq1\nq2", 200);
+        Probe.due("they stay behind the last one", Probe.cursors(pad), "300");
         // lines that are sorted are taken out, and not there any more
         text = "~:4,5sort\na\na\nd\nc";
         Probe.after(text, "\"ayyj:2,5n@a{ENTER}", "~:4,5sort\nA\nA\nc\nd", 400);
