@@ -2308,10 +2308,12 @@ public final class ModalPad {
             boolean stays = text.hasAt(places.row, places.col, pattern);
             int main = stays ? places.here() : first;
             places.otherCount = 0;
-            for (int place = first; place != NONE; place = nextMatch(place + 1)) {
+            int place = first;
+            for (int i = 0; i < MAX_LINES * MAX_SIGNS && place != NONE; i++) {
                 if (place != main) {
                     places.addOther(place);
                 }
+                place = nextMatch(place + 1);
             }
             if (!stays) {
                 places.go(text, main / 100, main % 100);
@@ -2852,7 +2854,7 @@ public final class ModalPad {
                 int col = text.findIn(row, 0, old);
                 while (col != NONE) {
                     many++;
-                    col = all ? text.findIn(row, col + old.size, old) : NONE;
+                    col = all ? text.findIn(row, col + Math.max(1, old.size), old) : NONE;
                 }
                 found = found || many > 0;
                 if (text.sizeOf(row) + many * (fresh.size - old.size) > MAX_SIGNS) {
@@ -2880,7 +2882,7 @@ public final class ModalPad {
                 for (int i = 0; i < fresh.size; i++) {
                     text.putSigns(row, text.sizeOf(row), fresh.signs[i], 1);
                 }
-                col += old.size - 1;
+                col += Math.max(1, old.size) - 1;
                 next = all ? spare.findIn(row, col + 1, old) : NONE;
             }
         }
