@@ -218,8 +218,15 @@ public final class MapTest {
         Probe.due("also those that wait", pad.waiting() * 10 + pad.failures(), 13);
         pad.tick(5);
         Probe.due("and are done", pad.failures(), 4);
+        // a typed key that stays is looked at by maps, though keys of a FINAL one stood ahead of it
+        map(pad, ModalPad.NORMAL, "a", "hh", true);
+        map(pad, ModalPad.NORMAL, "ab", "", true);
+        map(pad, ModalPad.NORMAL, "q", "$", true);
+        Probe.due("it waits", Probe.type(pad, "0a") * 10 + pad.waiting(), 1);
+        Probe.due("one failure", Probe.type(pad, "q"), 1);
+        Probe.due("the typed key", pad.given() * 10 + pad.column(), 2);
         Probe.due("answers of keys", pad.keys(Probe.packed("QQQQQQQQ")), 8);
-        Probe.due("failures", pad.failures(), 12);
+        Probe.due("failures", pad.failures(), 13);
         Probe.due("agrees", pad.agrees(), true);
     }
 

@@ -85,6 +85,16 @@ public final class PlaceEdgesTest {
         Probe.due("none is older", Probe.type(pad, "{OLDER}"), 1);
         Probe.due("9 newer", Probe.type(pad, "9{NEWER}") + pad.line(), 11);
         Probe.due("none is newer", Probe.type(pad, "{NEWER}"), 1);
+        pad = Probe.pad("\n".repeat(11) + "a");
+        for (int line = 2; line <= 12; line++) {
+            Probe.type(pad, line + "G");
+        }
+        for (int line = 10; line >= 2; line--) {
+            Probe.due("one older", Probe.type(pad, "{OLDER}") * 100 + pad.line(), line);
+        }
+        for (int line = 3; line <= 11; line++) {
+            Probe.due("one newer", Probe.type(pad, "{NEWER}") * 100 + pad.line(), line);
+        }
         pad = Probe.pad("ab\nc");
         Probe.type(pad, "GggG$gglG");
         jumpsAre(pad, "one of each line", 2);
