@@ -105,6 +105,8 @@ public final class FurtherLinesTest {
         does("abcd\nefgh", "l{RECT}jld", "ad\neh", 1);
         does("abcd\nefgh", "jl{RECT}kld", "ad\neh", 1);
         does("abcdef", "3l>iw", "  abcdef", 2);
+        does("ab", ">iw", "  ab", 2);
+        does("f(\n)", "l>i(", "  f(\n)", 2);
         does("f(\nab\n)", "j>i(", "  f(\n  ab\n)", 2);
         does("abc", "l~", "aBc", 2);
         does("abc", "lg~$", "aBC", 1);
