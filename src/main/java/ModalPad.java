@@ -2712,7 +2712,8 @@ public final class ModalPad {
 
         private boolean putRows(int top, int col, Strip had, int many) {
             int end = top + had.count(LINE_END) - 1;
-            int wide = widest(had) * many;
+            int each = widest(had);
+            int wide = each * many;
             if (end >= MAX_LINES || col + wide > MAX_SIGNS) {
                 return false;
             }
@@ -2727,7 +2728,7 @@ public final class ModalPad {
                 int rowEnd = had.find(LINE_END, place);
                 text.putSigns(row, col, ' ', wide);
                 for (int i = 0; i < wide; i++) {
-                    int at = place + i % Math.max(1, wide / many);
+                    int at = place + i % Math.max(1, each);
                     text.setSign(row, col + i, at < rowEnd ? had.at(at) : ' ');
                 }
                 place = rowEnd + 1;
