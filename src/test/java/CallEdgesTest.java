@@ -24,24 +24,7 @@ public final class CallEdgesTest {
 
     /** All that calls tell of a pad, so that it is seen whether something has changed. */
     private static String all(ModalPad pad) {
-        StringBuilder told = new StringBuilder(Probe.text(pad)).append('|').append(Probe.place(pad)).append('|')
-            .append(pad.mode()).append('|').append(pad.given()).append('|').append(pad.waiting()).append('|')
-            .append(Probe.cursors(pad)).append('|').append(pad.jumps()).append('|').append(pad.folds());
-        for (int line = 0; line < pad.lines(); line++) {
-            told.append(',').append(pad.foldOf(line));
-        }
-        for (char letter = 'a'; letter <= 'z'; letter++) {
-            told.append(pad.mark(letter) == ModalPad.NONE ? "" : "|" + letter + pad.mark(letter))
-                .append(pad.registerKind(letter) == 0 ? "" : "|" + Probe.register(pad, letter));
-        }
-        for (char name : "0123456789-\"".toCharArray()) {
-            told.append('|').append(Probe.register(pad, name));
-        }
-        told.append('|').append(pad.state()).append('/').append(pad.states());
-        for (int state = 0; state < pad.states(); state++) {
-            told.append(',').append(pad.parent(state));
-        }
-        return told.append('|').append(pad.failures()).append('|').append(pad.taken()).toString();
+        return Probe.standing(pad) + "|" + pad.given() + "|" + pad.waiting() + "|" + pad.failures() + "|" + pad.taken();
     }
 
     /** A pad of which each part has something. */

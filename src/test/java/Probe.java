@@ -96,6 +96,28 @@ final class Probe {
         return told.toString();
     }
 
+    /** All that calls tell of what keys lead to, but for the keys and failures themselves. */
+    static String standing(ModalPad pad) {
+        StringBuilder told = new StringBuilder(text(pad)).append('|').append(place(pad)).append('|')
+            .append(pad.mode()).append('|').append(cursors(pad)).append('|').append(pad.jumps()).append('|')
+            .append(pad.folds());
+        for (int line = 0; line < pad.lines(); line++) {
+            told.append(',').append(pad.foldOf(line));
+        }
+        for (char letter = 'a'; letter <= 'z'; letter++) {
+            told.append(pad.mark(letter) == ModalPad.NONE ? "" : "|" + letter + pad.mark(letter))
+                .append(pad.registerKind(letter) == 0 ? "" : "|" + register(pad, letter));
+        }
+        for (char name : "0123456789-\"".toCharArray()) {
+            told.append('|').append(register(pad, name));
+        }
+        told.append('|').append(pad.state()).append('/').append(pad.states());
+        for (int state = 0; state < pad.states(); state++) {
+            told.append(',').append(pad.parent(state));
+        }
+        return told.toString();
+    }
+
     static void due(String what, Object got, Object want) {
         if (!want.equals(got)) {
             wrong++;
